@@ -643,8 +643,6 @@ public final class LabelApplicator {
             taken = 0;
             ending = NOT_ENDED;
             speed = newSpeed;
-            reason = GOOD;
-            late = false;
         }
 
         void take(int kind, int length) {

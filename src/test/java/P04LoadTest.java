@@ -4,7 +4,9 @@ public final class P04LoadTest {
     private static final Object[][] TEXTS = {
         {"", 0}, {" ", 0}, {"   ", 0}, {"l1", 1}, {"l99", 1}, {"b1", 1}, {"b99", 1}, {"g1", 1}, {"g30", 1},
         {"s1", 1}, {"s30", 1}, {"l05", 1}, {"l5g3b7s2", 4}, {"l5 5*g3", 6}, {"l12*g3", -2003}, {"l12 2*g3", 3},
-        {"80*l1", 80}, {"81*l1", Due.FULL}, {"99*l1", Due.FULL}, {"8*(10*l1)", 80}, {"9*(9*l1)", Due.FULL},
+        {"80*l1", 80}, {"81*l1", Due.FULL}, {"99*l1", Due.FULL}, {"8*(10*l1)", 80},
+        {"80*l1g1", Due.FULL}, {"40*l1 40*g1 b1", Due.FULL}, {"79*l1g1", 80}, {"79*l1 2*g1", Due.FULL},
+        {"9*(9*l1)", Due.FULL},
         {"01*l1", 1}, {"1*(l1)", 1}, {"(l1)", 1}, {"()", 0}, {"3*()", 0}, {"99*(99*(99*()))", 0},
         {"( ( ( ) ) )", 0}, {"(((l1)))", 1}, {"2*(2*(2*(2*l1)))", 16}, {"2*(l1 3*(g2) b4)g5", 11},
         {"()()()()()()()()()()()()()()()()()()()()()()()()()()()()()()()()()()()()()()()()", 0},
@@ -75,6 +77,12 @@ public final class P04LoadTest {
     }
 
     private static void faultsChangeNothing() {
+        LabelApplicator y = new LabelApplicator();
+        Due.be("too many", Due.load(y, "81*l1"), Due.FULL);
+        Due.be("none of them", y.count(0), 0);
+        Due.be("not too many", Due.load(y, "3*l1"), 3);
+        Due.be("a fault", Due.load(y, "3*(l1"), -2005);
+        Due.be("no fault", Due.load(y, "3*(l1)"), 6);
         LabelApplicator x = Due.with("l5");
         Due.be("a fault behind items", Due.load(x, "l6 g3 l0"), -2007);
         Due.be("as before", x.count(0), 1);

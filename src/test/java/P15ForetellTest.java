@@ -99,7 +99,10 @@ public final class P15ForetellTest {
             Due.be("good of " + products, good, x.count(24));
             Due.be("rejected of " + products, rejected, x.count(10));
             Due.be("left of " + products, left, x.count(0));
-            Due.be("good from now on", x.foretell(1, 0, 0) <= 1 ? 1 : 0, 1);
         }
+        LabelApplicator y = Due.with("2*(l20l27g3) 2*(l47g3) l20l27g3");
+        y.run(3, 50);
+        Due.countsBe("so far", y, 9, 1, 4);
+        foretells(y, 2, 50, 1, 2, 0, Due.NONE);
     }
 }

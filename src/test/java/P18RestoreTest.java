@@ -11,6 +11,7 @@ public final class P18RestoreTest {
         everythingComesBack(x);
         textAndSlotsStay(x);
         savedBeforeTheFirstCycle();
+        numbersComeBack();
         Due.end();
     }
 
@@ -60,6 +61,34 @@ public final class P18RestoreTest {
         Due.be("restore(1)", x.restore(1), 0);
         Due.be("slot 0 is as it was saved", x.restore(0), 2);
         Due.webBe("slot 0", x, new int[] {2, 9}, new int[] {1, 2});
+    }
+
+    private static void numbersComeBack() {
+        LabelApplicator x = Due.with("l52g2g3 l43g3 s3l20l20g3 l20l20l20g3 b47g3 l47g3");
+        x.run(3, 10);
+        int[] latest = {46, 2, 3, 10, 4, 1};
+        int[] counts = {3, 0, 0, 1, 3, 1, 1, 0, 0};
+        int[] reasons = {1, 0, 0, 1, 0, 0, 1, 0};
+        Due.latestBe("then", x, latest);
+        Due.countsBe("then", x, 6, counts);
+        Due.countsBe("then", x, 24, reasons);
+        int pitch = x.pitch();
+        x.save(0);
+        Due.be("run", x.run(9, 100), 6);
+        Due.latestBe("later", x, 0, 0, 1, 100, 0, 3);
+        Due.countsBe("later", x, 6, 9, 1, 4, 2, 6, 1, 2, 3, 1);
+        x.setPitch(77);
+        Due.be("restore(0)", x.restore(0), 8);
+        Due.latestBe("then again", x, latest);
+        Due.countsBe("then again", x, 3, 10, 4, 3);
+        Due.countsBe("then again", x, 6, counts);
+        Due.countsBe("then again", x, 24, reasons);
+        Due.be("pitch()", x.pitch(), pitch);
+        Due.be("station(0)", x.station(0), 3);
+        Due.be("station(2)", x.station(2), 6);
+        Due.be("station(3)", x.station(3), Due.NONE);
+        Due.be("item(0, 2)", x.item(0, 2), 0);
+        Due.be("item(7, 0)", x.item(7, 0), 1);
     }
 
     private static void savedBeforeTheFirstCycle() {

@@ -19,6 +19,7 @@ public final class P20DigestTest {
         x.type(127);
         Due.be("digest() with other bytes", x.digest(), hashOf(x, "2*l" + (char) 0 + (char) 127));
         Due.be("digest() again", x.digest(), x.digest());
+        foretold();
         Due.end();
     }
 
@@ -30,6 +31,20 @@ public final class P20DigestTest {
             hash = 31 * hash + number;
         }
         Due.be("digest() of a new object", new LabelApplicator().digest(), hash);
+    }
+
+    /** Webs and settings with which other products or speeds than those of the document would show. */
+    private static void foretold() {
+        LabelApplicator x = new LabelApplicator();
+        x.set(4, 1000);
+        same(x, "20*(l47g3)");
+        same(x, "9*(b47g3)");
+        x.unload();
+        x.set(5, 0);
+        x.set(4, 299);
+        same(x, "4*(l47g3)");
+        x.set(4, 300);
+        same(x, "l47g3");
     }
 
     private static void same(LabelApplicator x, String text) {
