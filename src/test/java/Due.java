@@ -1,17 +1,49 @@
+import java.util.function.IntSupplier;
+import java.util.function.IntUnaryOperator;
+
 /** What the tests share: comparing an answer with the one that is due, and making applicators with webs. */
 final class Due {
     static final int NONE = -1, BAD = -2, STATE = -3, FULL = -4;
 
     private static int wrong = 0;
+    private static String sentence = "";
 
     private Due() {
+    }
+
+    /** Tells the sentence of the document that is tested from here on, so that a wrong answer names it. */
+    static void sentence(String words) {
+        sentence = "<" + words + "> ";
     }
 
     static void be(String call, long got, long want) {
         if (got != want) {
             wrong++;
-            System.out.println(call + " answered " + got + ", due is " + want);
+            System.out.println(sentence + call + " answered " + got + ", due is " + want);
         }
+    }
+
+    /** An argument can be from the least to the greatest number, and nothing else. */
+    static void range(String call, int least, int greatest, IntUnaryOperator answer) {
+        int[] outside = {least - 1, greatest + 1, Integer.MIN_VALUE, Integer.MAX_VALUE};
+        for (int value : outside) {
+            be(call + " with " + value, answer.applyAsInt(value), BAD);
+        }
+        be(call + " with " + least + " is BAD", answer.applyAsInt(least) == BAD ? 1 : 0, 0);
+        be(call + " with " + greatest + " is BAD", answer.applyAsInt(greatest) == BAD ? 1 : 0, 0);
+    }
+
+    /** A call that returns an error, and changes nothing. */
+    static void refused(LabelApplicator x, String call, int error, IntSupplier answer) {
+        long before = x.digest();
+        be(call, answer.getAsInt(), error);
+        be("digest() behind " + call, x.digest(), before);
+    }
+
+    /** One product that comes with a speed, and the numbers of its cycle. */
+    static void cycle(LabelApplicator x, int speed, int... latest) {
+        be("run(1, " + speed + ")", x.run(1, speed), 1);
+        latestBe("run(1, " + speed + ")", x, latest);
     }
 
     static void end() {
