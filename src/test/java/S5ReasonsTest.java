@@ -10,6 +10,7 @@ public final class S5ReasonsTest {
         differsByMore();
         good();
         learns();
+        learnsInFloats();
         gains();
         learnsOnlyFromGoodOnes();
         rejected();
@@ -137,6 +138,22 @@ public final class S5ReasonsTest {
             float change = difference * share;
             pitch = pitch + change;
             Due.be("pitch() behind " + travel, x.pitch(), Float.floatToIntBits(pitch));
+        }
+    }
+
+    /** Where doubles, made a float at last, would tell another pitch. */
+    private static void learnsInFloats() {
+        Due.sentence("(All arithmetic with the pitch is that of Java's float; an int is converted to float first.)");
+        int[] gains = {1, 2, 2};
+        int[] travels = {8, 10, 34};
+        float[] pitches = {1.9625001f, 3.3249998f, 9.325001f};
+        for (int i = 0; i < gains.length; i++) {
+            LabelApplicator x = Due.with("l" + (travels[i] - 3) + "g3");
+            x.setPitch(11);
+            x.set(1, 50);
+            x.set(6, gains[i]);
+            Due.cycle(x, 50, travels[i], 1, 0, 50, 2, 1);
+            Due.be("pitch() behind " + travels[i], x.pitch(), Float.floatToIntBits(pitches[i]));
         }
     }
 

@@ -43,11 +43,13 @@ public final class S8CallsTest {
 
     private static void goesOn() {
         Due.sentence("Clears the faults in a row; an applicator that has stopped goes on.");
-        LabelApplicator x = new LabelApplicator();
-        x.run(3, 0);
+        LabelApplicator x = Due.with("l47g3");
+        x.run(4, 0);
         Due.countsBe("stopped", x, 13, 3, 1);
         x.clearFaults();
         Due.countsBe("goes on", x, 13, 0, 0);
+        Due.countsBe("the other numbers stay", x, 4, 4, 4, 4, 0, 0, 1, 0);
+        Due.latestBe("the latest cycle stays", x, 0, 0, 1, 0, 0, 3);
         Due.be("run(2, 0)", x.run(2, 0), 2);
         Due.countsBe("two", x, 13, 2, 0);
     }
@@ -364,9 +366,9 @@ public final class S8CallsTest {
 
     private static void allButTheTextAndTheSlots() {
         Due.sentence("Saves everything but the text and the slots in a slot");
-        LabelApplicator x = Due.with("l46g3 b47g3 l53g3 l9");
+        LabelApplicator x = Due.with("l46g3 s3l44g3 b47g3 l53g3 l9");
         x.set(7, 2);
-        x.run(3, 130);
+        x.run(4, 130);
         Due.be("stopped", x.count(14), 1);
         x.save(1);
         x.save(0);
