@@ -18,16 +18,16 @@ public final class LabelApplicator {
     private static final int GOOD = 0, NO_WEB = 1, NO_MARK = 2, SPLICED = 3, NO_LABEL = 4;
     private static final int MANY_LABELS = 5, TOO_LATE = 6, WRONG_SPEED = 7, REASONS = 8;
 
-    private final Text text;
     private final Reader reader;
+    private final Text text;
     private final Machine now;
     private final Machine trial;
     private final Slot firstSlot;
     private final Slot secondSlot;
 
     public LabelApplicator() {
-        text = new Text();
-        reader = new Reader(text);
+        reader = new Reader();
+        text = reader.text;
         now = new Machine();
         trial = new Machine();
         firstSlot = new Slot();
@@ -375,22 +375,22 @@ public final class LabelApplicator {
         }
     }
 
-    /** Reads items from the text; if there is no fault then, and not too many items, they are in items. */
+    /** Has the text, and reads items from it; if there is no fault then, and not too many items, they are in items. */
     private static final class Reader {
         private static final int DEEPEST = 3, TWO_DIGITS = 99, LONGEST_GAP = 30;
 
+        final Text text;
         final Items items;
         boolean tooMany;
         int fault;
 
-        private final Text text;
         private final int[] firstInside;
         private final int[] timesInside;
         private int depth;
         private int at;
 
-        Reader(Text text) {
-            this.text = text;
+        Reader() {
+            text = new Text();
             items = new Items();
             firstInside = new int[DEEPEST];
             timesInside = new int[DEEPEST];

@@ -1,6 +1,12 @@
 import java.io.IOException;
+import java.lang.reflect.Method;
+import java.lang.reflect.Modifier;
 import java.nio.file.Files;
 import java.nio.file.Path;
+import java.util.ArrayList;
+import java.util.List;
+import java.util.Set;
+import java.util.TreeSet;
 import java.util.regex.Matcher;
 import java.util.regex.Pattern;
 
@@ -10,7 +16,9 @@ public final class LanguageTest {
         "\\btry\\b", "\\bcatch\\b", "\\bfinally\\b", "\\bassert\\b", "\\bsynchronized\\b", "->", "::", "@",
         "\\b(?!Math\\.)[A-Z]\\w*\\.(?!length\\b)\\w", "Math\\.(?!max\\b|min\\b|abs\\b)", "\\bstatic \\{", "\\bdouble\\b",
         "\\bwhile \\(true\\)", "\\bfor \\(;;\\)", "\\bvar\\b", "\\bstatic (?!final )\\w+ \\w+( =|;)",
-        "\\bstatic final float\\b", "\\bnative\\b", "\\bjava\\b"};
+        "\\bstatic final float\\b", "\\bnative\\b", "\\bjava\\b",
+        // a constructor that is given nothing hands out nothing
+        "\\bnew [A-Z]\\w*\\((?!\\))"};
     private static final String METHOD = "\n( +)(?:public |private |static )*[\\w\\[\\]]+ ?\\w*\\(([^)]*)\\) \\{\n(.*?)\n\\1\\}\n";
 
     public static void main(String[] args) throws IOException {
@@ -29,7 +37,28 @@ public final class LanguageTest {
             }
         }
         sizes(code);
+        names();
         Due.end();
+    }
+
+    /** No private method bears the name of a public one. */
+    private static void names() {
+        Set<String> open = new TreeSet<>();
+        List<Method> others = new ArrayList<>();
+        for (Method method : LabelApplicator.class.getDeclaredMethods()) {
+            if (Modifier.isPublic(method.getModifiers())) {
+                open.add(method.getName());
+            } else {
+                others.add(method);
+            }
+        }
+        Due.be("methods of the face", open.size(), 19);
+        for (Class<?> inside : LabelApplicator.class.getDeclaredClasses()) {
+            others.addAll(List.of(inside.getDeclaredMethods()));
+        }
+        for (Method method : others) {
+            Due.be("the name of " + method, open.contains(method.getName()) ? 1 : 0, 0);
+        }
     }
 
     private static void sizes(String code) {
